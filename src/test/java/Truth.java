@@ -21,7 +21,7 @@ final class Truth {
     static BigDecimal power(int k) {
         if (POWERS[k + 160] == null) {
             POWERS[k + 160] = k < 0
-                    ? BigDecimal.ONE.divide(power(-k), SCALE, RoundingMode.HALF_EVEN) : sumOfPower(eighth(k));
+                    ? BigDecimal.ONE.divide(power(-k), SCALE, RoundingMode.DOWN) : sumOfPower(eighth(k));
         }
         return POWERS[k + 160];
     }
@@ -31,7 +31,7 @@ final class Truth {
         BigDecimal term = BigDecimal.ONE;
         for (int n = 0; n <= 40 || term.compareTo(END) > 0; n++) {
             sum = sum.add(term);
-            term = term.multiply(x).divide(BigDecimal.valueOf(n + 1), SCALE, RoundingMode.HALF_EVEN);
+            term = term.multiply(x).divide(BigDecimal.valueOf(n + 1), SCALE, RoundingMode.DOWN);
         }
         return sum;
     }
@@ -44,13 +44,13 @@ final class Truth {
     }
 
     private static BigDecimal sumOfLog(int k) {
-        BigDecimal z = new BigDecimal(k).divide(BigDecimal.valueOf(16 + k), SCALE, RoundingMode.HALF_EVEN);
-        BigDecimal square = z.multiply(z).setScale(SCALE, RoundingMode.HALF_EVEN);
+        BigDecimal z = new BigDecimal(k).divide(BigDecimal.valueOf(16 + k), SCALE, RoundingMode.DOWN);
+        BigDecimal square = z.multiply(z).setScale(SCALE, RoundingMode.DOWN);
         BigDecimal sum = BigDecimal.ZERO;
         BigDecimal term = z;
         for (int n = 1; term.abs().compareTo(END) > 0; n += 2) {
-            sum = sum.add(term.divide(BigDecimal.valueOf(n), SCALE, RoundingMode.HALF_EVEN));
-            term = term.multiply(square).setScale(SCALE, RoundingMode.HALF_EVEN);
+            sum = sum.add(term.divide(BigDecimal.valueOf(n), SCALE, RoundingMode.DOWN));
+            term = term.multiply(square).setScale(SCALE, RoundingMode.DOWN);
         }
         return sum.multiply(TWO);
     }
@@ -154,6 +154,76 @@ final class Truth {
     /** How many numbers of 64 digits lie from one to the other, which has the same sign. */
     static long places(double one, double other) {
         return Math.abs(Double.doubleToRawLongBits(one) - Double.doubleToRawLongBits(other));
+    }
+
+    static boolean isWithin(BigDecimal number, double near, BigDecimal distance) {
+        return number.subtract(new BigDecimal(near)).abs().compareTo(distance) <= 0;
+    }
+
+    /** Section 3: BELOW, LEVEL and LIKENESS. VALUES that are not the same are far more than 1e-60 apart. */
+    static int order(Answers one, Answers other) {
+        BigDecimal difference = value(one).subtract(value(other));
+        return difference.abs().compareTo(new BigDecimal("1e-60")) < 0 ? 0 : difference.signum();
+    }
+
+    private static boolean isEighth(Answers a) {
+        int kind = a.kind();
+        return kind == 0 || kind >= 7 || a.first() + a.second() == 0;
+    }
+
+    private static int family(Answers a) {
+        if (isEighth(a)) {
+            return 0;
+        }
+        int kind = a.kind();
+        return kind == 3 ? 3 : kind == 2 || kind == 5 ? 2 : 1;
+    }
+
+    /** By the lines of the document, not by the VALUES. */
+    static boolean isLevel(Answers one, Answers other) {
+        if (family(one) != family(other)) {
+            return false;
+        }
+        if (isEighth(one)) {
+            return value(one).compareTo(value(other)) == 0;
+        }
+        return one.first() + one.second() == other.first() + other.second();
+    }
+
+    private static boolean isPlainPower(Answers a) {
+        return a.kind() == 1 || a.kind() == 6 || a.kind() == 4 && a.first() * a.second() == 0;
+    }
+
+    private static boolean isLessOne(Answers a) {
+        return a.kind() == 2 || a.kind() == 5;
+    }
+
+    private static boolean isRoundBack(Answers a) {
+        return a.kind() == 7 && !isExact(a);
+    }
+
+    static int likeness(Answers one, Answers other) {
+        if (!isLevel(one, other)) {
+            return 0;
+        }
+        if (one.equals(other)) {
+            return 1;
+        }
+        if (isPlainPower(one) && isPlainPower(other)) {
+            int more = one.kind() == 6 ? one.first() : other.first();
+            boolean isOneMore = one.kind() == 6 ^ other.kind() == 6;
+            return isOneMore && java.util.List.of(-7, -3, 8, 12, 87).contains(more) ? 0 : 1;
+        }
+        if (isLessOne(one) && isLessOne(other)) {
+            return java.util.List.of(-20, 7, 8, 12, 61, 87).contains(one.first()) ? 0 : 1;
+        }
+        if (isExact(one) && isExact(other)) {
+            return 1;
+        }
+        if (isExact(one) && isRoundBack(other) || isExact(other) && isRoundBack(one)) {
+            return 0;
+        }
+        return -9;
     }
 
     static boolean hasGrowth(int k, int n) {
