@@ -29,14 +29,6 @@ public final class ActsTest {
         Due.is(what + " second", x.eighths(cell, 1), second);
     }
 
-    private static Steadygrowth with(Answers... answers) {
-        Steadygrowth x = new Steadygrowth();
-        for (int i = 0; i < answers.length; i++) {
-            answers[i].putInto(x, i);
-        }
-        return x;
-    }
-
     private static void promise1NewObject() {
         Steadygrowth x = new Steadygrowth();
         for (int cell = 0; cell < 8; cell++) {
@@ -103,7 +95,7 @@ public final class ActsTest {
     /** Each ANSWER is taken once: what comes of it, or -9 and nothing changed. */
     private static void turns(String name, Turn turn, Makes makes) {
         for (Answers a : Answers.most()) {
-            Steadygrowth x = with(a);
+            Steadygrowth x = Answers.with(a);
             x.putExp(1, 1);
             x.times(1, 1, 1);
             int acts = x.house(0);
@@ -159,7 +151,7 @@ public final class ActsTest {
         }
         for (int kind = 1; kind < 10; kind++) {
             Answers other = kind == 4 ? new Answers(4, 6, 7) : Answers.of(kind, 9);
-            Steadygrowth x = with(other);
+            Steadygrowth x = Answers.with(other);
             x.putEighths(1, 5);
             Due.is("add of kind " + kind, x.add(0, 1, 2), -9);
             Due.is("add to kind " + kind, x.add(1, 0, 2), -9);
@@ -184,7 +176,7 @@ public final class ActsTest {
         }
         for (int kind = 0; kind < 10; kind++) {
             if (kind != 1) {
-                Steadygrowth x = with(kind == 4 ? new Answers(4, 6, 7) : Answers.of(kind, 9));
+                Steadygrowth x = Answers.with(kind == 4 ? new Answers(4, 6, 7) : Answers.of(kind, 9));
                 x.putExp(1, 5);
                 Due.is("times of kind " + kind, x.times(0, 1, 2), -9);
                 Due.is("times to kind " + kind, x.times(1, 0, 2), -9);
@@ -207,7 +199,7 @@ public final class ActsTest {
 
     private static void promise14Copy() {
         for (Answers a : Answers.most()) {
-            Steadygrowth x = with(a);
+            Steadygrowth x = Answers.with(a);
             x.putLog1p(1, 99);
             boolean isLog = a.equals(Answers.of(3, 99));
             String what = "copy of " + a;
@@ -223,7 +215,7 @@ public final class ActsTest {
     }
 
     private static void promise15Swap() {
-        Steadygrowth x = with(Answers.of(1, 5), Answers.of(3, -2));
+        Steadygrowth x = Answers.with(Answers.of(1, 5), Answers.of(3, -2));
         int acts = x.house(0);
         Due.is("swap", x.swap(0, 1), 1);
         has("swap 0", x, 0, 3, -2, 0);
@@ -242,7 +234,7 @@ public final class ActsTest {
     }
 
     private static void promise16Choose() {
-        Steadygrowth x = with(Answers.of(1, 5), Answers.of(1, 4));
+        Steadygrowth x = Answers.with(Answers.of(1, 5), Answers.of(1, 4));
         Due.is("choose the greater one", x.choose(0, 1, true, 2), 1);
         has("choose the greater one", x, 2, 1, 5, 0);
         Due.is("choose the greater one again", x.choose(1, 0, true, 2), 0);
@@ -326,7 +318,7 @@ public final class ActsTest {
     }
 
     private static void whatThrowsChangesNothing() {
-        Steadygrowth x = with(Answers.of(1, 5), Answers.of(3, -2));
+        Steadygrowth x = Answers.with(Answers.of(1, 5), Answers.of(3, -2));
         long was = x.digest();
         Due.argument("putExp", () -> x.putExp(0, 200));
         Due.index("times", () -> x.times(0, 0, 9));

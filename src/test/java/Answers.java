@@ -74,6 +74,15 @@ record Answers(int kind, int first, int second) {
         return found;
     }
 
+    /** A new object with these in its first cells. */
+    static Steadygrowth with(Answers... answers) {
+        Steadygrowth x = new Steadygrowth();
+        for (int i = 0; i < answers.length; i++) {
+            answers[i].putInto(x, i);
+        }
+        return x;
+    }
+
     /** Takes at most three calls, which all do something; cells 6 and 7 are used, too. */
     void putInto(Steadygrowth x, int cell) {
         switch (kind) {

@@ -16,47 +16,36 @@ public final class CellsTest {
         Due.finish();
     }
 
-    private static Steadygrowth with(Answers... answers) {
-        Steadygrowth x = new Steadygrowth();
-        for (int i = 0; i < answers.length; i++) {
-            answers[i].putInto(x, i);
-        }
-        return x;
-    }
-
-    private static Answers one(int kind, int first) {
-        return Answers.of(kind, first);
-    }
-
     private static void promise43First() {
         List<Answers> all = Answers.most();
         for (int i = 0; i < all.size(); i += 3) {
             Answers a = all.get(i);
-            Steadygrowth x = with(a);
+            Steadygrowth x = Answers.with(a);
             for (int kind = 1; kind <= 3; kind++) {
                 int want = kind == 3 ? -7 : -160;
-                while (want <= 160 && Truth.order(one(kind, want), a) < 0) {
+                while (want <= 160 && Truth.order(Answers.of(kind, want), a) < 0) {
                     want++;
                 }
                 Due.is("first of kind " + kind + " past " + a, x.first(0, kind), want);
             }
         }
         for (int k = -160; k <= 160; k++) {
-            Due.is("first EXP " + k, with(one(1, k)).first(0, 1), k);
-            Due.is("first EXPM1 " + k, with(one(2, k)).first(0, 2), k);
-            Due.is("first LOG1P " + k, with(one(3, Math.max(-7, k))).first(0, 3), Math.max(-7, k));
+            Due.is("first EXP " + k, Answers.with(Answers.of(1, k)).first(0, 1), k);
+            Due.is("first EXPM1 " + k, Answers.with(Answers.of(2, k)).first(0, 2), k);
+            Due.is("first LOG1P " + k, Answers.with(Answers.of(3, Math.max(-7, k))).first(0, 3), Math.max(-7, k));
         }
-        Due.is("first EXP past the least", with(one(0, -160)).first(0, 1), -160);
-        Due.is("first EXPM1 past what all are above", with(one(0, -8)).first(0, 2), -160);
-        Due.is("first LOG1P past what all are above", with(one(0, -17)).first(0, 3), -7);
-        Due.is("first EXPM1 past EXP 160", with(one(1, 160)).first(0, 2), 161);
-        Due.is("first LOG1P past 4", with(one(0, 32)).first(0, 3), 161);
+        Due.is("first EXP past the least", Answers.with(Answers.of(0, -160)).first(0, 1), -160);
+        Due.is("first EXPM1 past what all are above", Answers.with(Answers.of(0, -8)).first(0, 2), -160);
+        Due.is("first LOG1P past what all are above", Answers.with(Answers.of(0, -17)).first(0, 3), -7);
+        Due.is("first EXPM1 past EXP 160", Answers.with(Answers.of(1, 160)).first(0, 2), 161);
+        Due.is("first LOG1P past 4", Answers.with(Answers.of(0, 32)).first(0, 3), 161);
         Due.is("first EXP past 0", new Steadygrowth().first(7, 1), -160);
         Due.is("first EXPM1 past 0", new Steadygrowth().first(7, 2), 0);
     }
 
     private static void promise44Rank() {
-        Steadygrowth x = with(one(1, 0), one(0, 8), one(0, 9), one(0, -3), one(3, -7));
+        Steadygrowth x = Answers.with(Answers.of(1, 0), Answers.of(0, 8),
+                Answers.of(0, 9), Answers.of(0, -3), Answers.of(3, -7));
         int[] due = {5, 5, 7, 1, 0, 2, 2, 2};
         for (int cell = 0; cell < 8; cell++) {
             Due.is("rank of " + cell, x.rank(cell), due[cell]);
@@ -65,7 +54,8 @@ public final class CellsTest {
     }
 
     private static void promise45Find() {
-        Steadygrowth x = with(one(0, 1), one(1, 0), one(0, 1), one(0, 8), one(6, 0), one(0, 3));
+        Steadygrowth x = Answers.with(Answers.of(0, 1), Answers.of(1, 0),
+                Answers.of(0, 1), Answers.of(0, 8), Answers.of(6, 0), Answers.of(0, 3));
         x.putEighths(6, 1);
         x.putEighths(7, 2);
         int[] from = {0, 1, 0, 1, 1, 5, 0, 7};
@@ -79,7 +69,8 @@ public final class CellsTest {
     }
 
     private static void promise46End() {
-        Steadygrowth x = with(one(0, 1), one(0, 8), one(1, 0), one(2, -160), one(0, -7), one(2, -160));
+        Steadygrowth x = Answers.with(Answers.of(0, 1), Answers.of(0, 8),
+                Answers.of(1, 0), Answers.of(2, -160), Answers.of(0, -7), Answers.of(2, -160));
         x.putExpm1(5, -160);
         x.putEighths(7, 2);
         Due.is("end of the greatest", x.end(true), 1);
@@ -96,8 +87,8 @@ public final class CellsTest {
 
     private static void promise47Count() {
         for (int kind = 0; kind < 10; kind++) {
-            Answers a = kind == 4 ? new Answers(4, 7, 9) : one(kind, 9);
-            Steadygrowth x = with(a);
+            Answers a = kind == 4 ? new Answers(4, 7, 9) : Answers.of(kind, 9);
+            Steadygrowth x = Answers.with(a);
             x.putEighths(6, 0);
             x.putEighths(7, 1);
             for (int other = 0; other < 10; other++) {
