@@ -23,16 +23,10 @@ public final class ActsTest {
         Due.finish();
     }
 
-    private static void has(String what, Steadygrowth x, int cell, int kind, int first, int second) {
-        Due.is(what + " kind", x.kind(cell), kind);
-        Due.is(what + " first", x.eighths(cell, 0), first);
-        Due.is(what + " second", x.eighths(cell, 1), second);
-    }
-
     private static void promise1NewObject() {
         Steadygrowth x = new Steadygrowth();
         for (int cell = 0; cell < 8; cell++) {
-            has("new " + cell, x, cell, 0, 0, 0);
+            Told.has("new " + cell, x, cell, 0, 0, 0);
             Due.is("new sign", x.sign(cell), 0);
             Due.is("new digits", x.digits(cell, 45), "0");
         }
@@ -53,7 +47,7 @@ public final class ActsTest {
             Steadygrowth x = new Steadygrowth();
             int cell = (k + 160) % 8;
             Due.is(name + " " + k, put.put(x, cell, k), kind == 0 && k == 0 ? 0 : 1);
-            has(name + " " + k, x, cell, kind, k, 0);
+            Told.has(name + " " + k, x, cell, kind, k, 0);
             Due.is(name + " again " + k, put.put(x, cell, k), 0);
         }
         Steadygrowth x = new Steadygrowth();
@@ -64,7 +58,7 @@ public final class ActsTest {
         Due.argument(name + " too low", () -> put.put(x, 0, least - 1));
         Due.argument(name + " far too low", () -> put.put(x, 7, Integer.MIN_VALUE));
         Due.is(name + " that threw is no act", x.house(0), 0);
-        has(name + " that threw", x, 0, 0, 0, 0);
+        Told.has(name + " that threw", x, 0, 0, 0, 0);
     }
 
     private static void promise2PutEighths() {
@@ -105,13 +99,13 @@ public final class ActsTest {
             Due.is(what + " acts", x.house(0), made < 0 ? acts : acts + 1);
             Due.is(what + " refused", x.house(1), made < 0 ? 1 : 0);
             int comes = name.equals("negate") ? -a.first() : a.first();
-            has(what, x, 1, made < 0 ? 4 : made, made < 0 ? 1 : comes, made < 0 ? 1 : 0);
-            has(what + " taken", x, 0, a.kind(), a.first(), a.second());
+            Told.has(what, x, 1, made < 0 ? 4 : made, made < 0 ? 1 : comes, made < 0 ? 1 : 0);
+            Told.has(what + " taken", x, 0, a.kind(), a.first(), a.second());
             if (made >= 0) {
                 Due.is(what + " again", turn.turn(x, 0, 1), 0);
                 boolean isOne = made == a.kind() && comes == a.first();
                 Due.is(what + " into itself", turn.turn(x, 0, 0), isOne ? 0 : 1);
-                has(what + " into itself", x, 0, made, comes, 0);
+                Told.has(what + " into itself", x, 0, made, comes, 0);
             }
         }
     }
@@ -145,7 +139,7 @@ public final class ActsTest {
             boolean isLet = sum >= -160 && sum <= 160;
             String what = "add " + pair[0] + " " + pair[1];
             Due.is(what, x.add(0, 1, 2), isLet ? 1 : -9);
-            has(what, x, 2, isLet ? 0 : 1, isLet ? sum : 3, 0);
+            Told.has(what, x, 2, isLet ? 0 : 1, isLet ? sum : 3, 0);
             Due.is(what + " again", x.add(1, 0, 2), isLet ? 0 : -9);
             Due.is(what + " refused", x.house(1), isLet ? 0 : 2);
         }
@@ -169,7 +163,7 @@ public final class ActsTest {
             boolean isLet = sum >= -160 && sum <= 160;
             String what = "times " + pair[0] + " " + pair[1];
             Due.is(what, x.times(0, 1, 2), isLet ? 1 : -9);
-            has(what, x, 2, isLet ? 4 : 0, isLet ? Math.min(pair[0], pair[1]) : 0,
+            Told.has(what, x, 2, isLet ? 4 : 0, isLet ? Math.min(pair[0], pair[1]) : 0,
                     isLet ? Math.max(pair[0], pair[1]) : 0);
             Due.is(what + " the other way", x.times(1, 0, 2), isLet ? 0 : -9);
             Due.is(what + " refused", x.house(1), isLet ? 0 : 2);
@@ -185,7 +179,7 @@ public final class ActsTest {
         Steadygrowth x = new Steadygrowth();
         x.putExp(0, 7);
         Due.is("times into one taken", x.times(0, 0, 0), 1);
-        has("times into one taken", x, 0, 4, 7, 7);
+        Told.has("times into one taken", x, 0, 4, 7, 7);
     }
 
     private static void promise12LessOne() {
@@ -204,13 +198,13 @@ public final class ActsTest {
             boolean isLog = a.equals(Answers.of(3, 99));
             String what = "copy of " + a;
             Due.is(what, x.copy(0, 1), isLog ? 0 : 1);
-            has(what, x, 1, a.kind(), a.first(), a.second());
+            Told.has(what, x, 1, a.kind(), a.first(), a.second());
             Due.is(what + " text", x.digits(1, 45), x.digits(0, 45));
             Due.is(what + " order", x.order(0, 1), 0);
             Due.is(what + " again", x.copy(0, 1), 0);
             Due.is(what + " to itself", x.copy(0, 0), 0);
             x.putExp(0, -50);
-            has(what + " stays", x, 1, a.kind(), a.first(), a.second());
+            Told.has(what + " stays", x, 1, a.kind(), a.first(), a.second());
         }
     }
 
@@ -218,14 +212,14 @@ public final class ActsTest {
         Steadygrowth x = Answers.with(Answers.of(1, 5), Answers.of(3, -2));
         int acts = x.house(0);
         Due.is("swap", x.swap(0, 1), 1);
-        has("swap 0", x, 0, 3, -2, 0);
-        has("swap 1", x, 1, 1, 5, 0);
+        Told.has("swap 0", x, 0, 3, -2, 0);
+        Told.has("swap 1", x, 1, 1, 5, 0);
         Due.is("swap of the same cell", x.swap(1, 1), 0);
-        has("swap of the same cell", x, 1, 1, 5, 0);
+        Told.has("swap of the same cell", x, 1, 1, 5, 0);
         x.copy(0, 2);
         Due.is("swap of what is ONE", x.swap(0, 2), 0);
         x.putExp(0, 6);
-        has("swapped cells stay two", x, 2, 3, -2, 0);
+        Told.has("swapped cells stay two", x, 2, 3, -2, 0);
         x.putExp(3, 0);
         x.putExpm1(4, 0);
         x.plusOne(4, 4);
@@ -236,23 +230,23 @@ public final class ActsTest {
     private static void promise16Choose() {
         Steadygrowth x = Answers.with(Answers.of(1, 5), Answers.of(1, 4));
         Due.is("choose the greater one", x.choose(0, 1, true, 2), 1);
-        has("choose the greater one", x, 2, 1, 5, 0);
+        Told.has("choose the greater one", x, 2, 1, 5, 0);
         Due.is("choose the greater one again", x.choose(1, 0, true, 2), 0);
         Due.is("choose the lesser one", x.choose(0, 1, false, 2), 1);
-        has("choose the lesser one", x, 2, 1, 4, 0);
+        Told.has("choose the lesser one", x, 2, 1, 4, 0);
         Due.is("choose the lesser one again", x.choose(1, 0, false, 2), 0);
         x.putExp(3, 0);
         x.putEighths(4, 8);
         Due.is("choose of LEVEL ones", x.choose(4, 3, true, 2), 1);
-        has("choose of LEVEL ones", x, 2, 0, 8, 0);
+        Told.has("choose of LEVEL ones", x, 2, 0, 8, 0);
         Due.is("choose of LEVEL ones", x.choose(3, 4, true, 2), 1);
-        has("choose of LEVEL ones", x, 2, 1, 0, 0);
+        Told.has("choose of LEVEL ones", x, 2, 1, 0, 0);
         Due.is("choose of LEVEL ones, lesser", x.choose(4, 3, false, 2), 1);
-        has("choose of LEVEL ones, lesser", x, 2, 0, 8, 0);
+        Told.has("choose of LEVEL ones, lesser", x, 2, 0, 8, 0);
         Due.is("choose of LEVEL ones, lesser", x.choose(3, 4, false, 2), 1);
-        has("choose of LEVEL ones, lesser", x, 2, 1, 0, 0);
+        Told.has("choose of LEVEL ones, lesser", x, 2, 1, 0, 0);
         Due.is("choose into one taken", x.choose(0, 1, true, 1), 1);
-        has("choose into one taken", x, 1, 1, 5, 0);
+        Told.has("choose into one taken", x, 1, 1, 5, 0);
         Due.is("choose into itself", x.choose(0, 3, true, 0), 0);
     }
 
@@ -270,17 +264,17 @@ public final class ActsTest {
         Due.is("sort", x.sort(), 8);
         int[][] due = {{0, -17}, {3, -7}, {2, -160}, {2, 0}, {0, 0}, {1, 0}, {0, 8}, {1, 9}};
         for (int i = 0; i < 8; i++) {
-            has("sorted " + i, x, i, due[i][0], due[i][1], 0);
+            Told.has("sorted " + i, x, i, due[i][0], due[i][1], 0);
         }
         Due.is("sort again", x.sort(), 0);
         x.swap(5, 6);
         Due.is("sort leaves LEVEL ones", x.sort(), 0);
-        has("sort leaves LEVEL ones", x, 5, 0, 8, 0);
+        Told.has("sort leaves LEVEL ones", x, 5, 0, 8, 0);
         x.swap(0, 1);
         Due.is("sort of two", x.sort(), 2);
         Due.is("sort is an act", x.house(0), 15);
         x.putExp(0, 77);
-        has("sorted cells stay apart", x, 1, 3, -7, 0);
+        Told.has("sorted cells stay apart", x, 1, 3, -7, 0);
         sortCountsByWhatIsOne();
     }
 
@@ -292,8 +286,8 @@ public final class ActsTest {
         }
         x.putExp(7, 3);
         Due.is("sort of seven that are ONE", x.sort(), 2);
-        has("sort of seven that are ONE", x, 0, 1, 3, 0);
-        has("sort of seven that are ONE", x, 7, 1, 4, 0);
+        Told.has("sort of seven that are ONE", x, 0, 1, 3, 0);
+        Told.has("sort of seven that are ONE", x, 7, 1, 4, 0);
     }
 
     private static void everyCellOfEveryActIsLookedAt() {

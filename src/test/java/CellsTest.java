@@ -192,29 +192,10 @@ public final class CellsTest {
 
     private static long digestOf(Steadygrowth x) {
         long d = 7921;
-        for (int i = 0; i < 8; i++) {
-            int[] told = {x.kind(i), x.eighths(i, 0), x.eighths(i, 1), x.upper(i), x.lower(i), x.sign(i), x.lead(i),
-                x.head(i, 31), x.tail(i), x.nearest(i), x.back(i), x.rank(i), x.find(i, false), x.find(i, true)};
-            for (int v : told) {
-                d = d * 31 + v;
-            }
+        for (int v : Told.parts(x)) {
+            d = d * 31 + v;
         }
-        for (int i = 0; i < 8; i++) {
-            for (int j = i + 1; j < 8; j++) {
-                d = d * 31 + x.order(i, j);
-                d = d * 31 + (x.isLevel(i, j) ? 1 : 0);
-                d = d * 31 + x.same(i, j);
-            }
-        }
-        d = d * 31 + x.end(true);
-        d = d * 31 + x.end(false);
-        for (int kind = 0; kind < 10; kind++) {
-            d = d * 31 + x.count(kind);
-        }
-        for (int what = 0; what < 3; what++) {
-            d = d * 31 + x.house(what);
-        }
-        return d * 31 + (x.isSound() ? 1 : 0);
+        return d;
     }
 
     private static void wrongArguments() {
