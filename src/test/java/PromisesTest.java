@@ -146,8 +146,11 @@ public final class PromisesTest {
     private static void promise9() {
         for (int k : new int[] {-160, -1, 0, 1, 160}) {
             Steadygrowth x = with(Answers.ARGUMENT, k);
-            Due.is("negate " + k, x.negate(0, 0), k == 0 ? 0 : 1);
-            Told.has("negate " + k, x, 0, Answers.ARGUMENT, -k, 0);
+            Due.is("negate " + k + " into another", x.negate(0, 7), k == 0 ? 0 : 1);
+            Told.has("negate " + k + " into another", x, 7, Answers.ARGUMENT, -k, 0);
+            Told.has("negate " + k + ", the one taken", x, 0, Answers.ARGUMENT, k, 0);
+            Due.is("negate " + k + " into itself", x.negate(0, 0), k == 0 ? 0 : 1);
+            Told.has("negate " + k + " into itself", x, 0, Answers.ARGUMENT, -k, 0);
         }
         for (int kind = 1; kind < 10; kind++) {
             Due.is("negate KIND " + kind, Answers.with(ofKind(kind)).negate(0, 1), -9);
@@ -220,6 +223,12 @@ public final class PromisesTest {
         Told.has("the cell taken keeps it", x, 2, Answers.EXP, 0, 0);
         x.putExp(2, 1);
         Told.has("the other one keeps it, too", x, 7, Answers.EXP, 0, 0);
+        x.putExpm1(3, -160);
+        Due.is("copy of the least EXPM1", x.copy(3, 7), 1);
+        Due.is("what is told of it comes along: sign", x.sign(7), -1);
+        Due.is("digits", x.digits(7, 45), x.digits(3, 45));
+        Due.is("upper", x.upper(7), NONE);
+        Due.is("order", x.order(3, 7), 0);
     }
 
     private static void promise15() {
@@ -750,16 +759,20 @@ public final class PromisesTest {
         house("a swap of a cell with itself", x, 2, 0, 0);
         x.sort();
         house("a sort of what is sorted", x, 3, 0, 0);
+        x.copy(3, 3);
+        house("a copy of a cell to itself", x, 4, 0, 0);
+        x.choose(1, 2, true, 0);
+        house("a choice of what is there", x, 5, 0, 0);
         x.times(0, 0, 0);
-        house("an act that told -9", x, 3, 1, 0);
+        house("an act that told -9", x, 5, 1, 0);
         x.knock();
-        house("a knock is no act", x, 3, 1, 1);
+        house("a knock is no act", x, 5, 1, 1);
         Due.index("an act that threw", () -> x.sign(8));
         Due.index("an act that threw", () -> x.putExp(8, 0));
         Due.argument("an act that threw", () -> x.putLog1p(0, -8));
-        house("what threw is none", x, 3, 1, 1);
+        house("what threw is none", x, 5, 1, 1);
         everyAskingOf(x);
-        house("what is asked is no act", x, 3, 1, 1);
+        house("what is asked is no act", x, 5, 1, 1);
     }
 
     /** Every call of promises 18 to 47, 50 and 51, each that may tell -9 so that it does. */
