@@ -33,6 +33,7 @@ public final class FaceTest {
 
     public static void main(String[] args) throws IOException {
         theFaceIsThatOfTheDocument();
+        theSignaturesAreAsPrinted();
         nothingElseIsSeen();
         theFileKeepsToTheLanguage();
         Due.finish();
@@ -68,6 +69,23 @@ public final class FaceTest {
                     : type == IllegalArgumentException.class ? " Argument" : " " + type);
         }
         return text.toString();
+    }
+
+    /** To the letter, names of arguments and the order of exceptions too; a line may be broken elsewhere. */
+    private static void theSignaturesAreAsPrinted() throws IOException {
+        String document = Files.readString(Path.of("../shared/DOC.md"));
+        int begin = document.indexOf("public final class Steadygrowth {");
+        Due.isTrue("the document has a face", begin >= 0);
+        String file = Files.readString(Path.of("src/main/java/Steadygrowth.java")).replaceAll("\\s+", " ");
+        int signatures = 0;
+        for (String line : document.substring(begin, document.indexOf("\n}", begin)).split("\n")) {
+            if (line.endsWith(";")) {
+                String signature = line.substring(0, line.length() - 1).trim();
+                Due.isTrue("as printed: " + signature, file.contains(" " + signature + " { "));
+                signatures++;
+            }
+        }
+        Due.is("signatures printed", signatures, FACE.length + 1);
     }
 
     private static void nothingElseIsSeen() {
